@@ -434,6 +434,11 @@ public final class TurningRoads {
         return place >= 0 && place < PLACES;
     }
 
+    /** The number of the lowest bit that is 1 (of some). */
+    private static int lowestBit(int bits) {
+        return Integer.bitCount((bits & -bits) - 1);
+    }
+
     private boolean isRule(int rule) {
         return rule >= 0 && rule < ruleCount && rules[rule] != null;
     }
@@ -1079,7 +1084,7 @@ public final class TurningRoads {
                 if (sum == wanted) {
                     found++;
                 }
-                int way = Integer.numberOfTrailingZeros(n);
+                int way = lowestBit(n);
                 if (way < size) {
                     long change = unit(second[way]) - unit(first[way]);
                     sum += (turned >> way & 1) == 0 ? change : -change;
@@ -1709,13 +1714,12 @@ public final class TurningRoads {
 
         private void spreadFrom(int code, int mark) {
             for (int member = 0; member < size; member++) {
-                int leading = leading(code, member);
-                for (int way = 0; way < ways; way++) {
-                    if ((leading >> way & 1) != 0) {
-                        int next = behind(code, member, way);
-                        if (mark(next) == 0) {
-                            note(next, mark);
-                        }
+                int left = leading(code, member);
+                for (int n = 0; n < MOST_WAYS && left != 0; n++) {
+                    int next = behind(code, member, lowestBit(left));
+                    left &= left - 1;
+                    if (mark(next) == 0) {
+                        note(next, mark);
                     }
                 }
             }

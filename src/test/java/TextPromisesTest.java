@@ -1,0 +1,279 @@
+/** Promises 1 to 5: a new object, the TAPE, LANDS and RULES with their FAULTS. */
+public final class TextPromisesTest {
+    private static void newObject() {
+        TurningRoads roads = new TurningRoads();
+        for (int what = 0; what <= 9; what++) {
+            Check.due("new count " + what, roads.count(what), 0);
+        }
+        Check.due("new way", roads.way(0, 0), -1);
+        Check.due("new goer", roads.goer(0, 0), -2);
+        Check.due("new place out", roads.place(0, 0), 0);
+        Check.due("new place reach", roads.place(3, 4), 8);
+        Check.due("new far to itself", roads.far(2, 2), 0);
+        Check.due("new far", roads.far(2, 3), -2);
+        Check.due("new go", roads.go(0, 0), -1);
+        Check.due("new turn", roads.turn(0), 0);
+        Check.due("new turn 1", roads.turn(1), -1);
+        Check.due("new fewest", roads.fewest(1), -1);
+        Check.due("new alike", roads.alike(), 1);
+        Check.due("new decoys", roads.decoys(0), -1);
+        Check.due("new post", roads.post(0, 0, false), -1);
+        Check.due("new longest", roads.longest(0, 0, 0), -1);
+        Check.due("new done", roads.done(), 0);
+        Check.due("new free", roads.free(0), -1);
+        Check.due("new row", roads.row(0, 0), -2);
+        Check.due("new tick", roads.tick(0, 1), -1);
+        Check.due("new ahead", roads.ahead(0, 0, 0), -1);
+        Check.due("new finest", roads.finest(0), -2);
+        Check.due("new finest, n wrong", roads.finest(601), -1);
+        Check.due("new home", roads.home(0, 0), -1);
+        Check.due("new days", roads.days(0, 1, 0, 0), -1);
+        Check.due("new back", roads.back(0), -1);
+        Check.due("new land of nothing", roads.land(), Check.fault(0, 0));
+        Check.due("new rule of nothing", roads.rule(), Check.fault(0, 0));
+        Check.due("the constant", TurningRoads.NONE, -1);
+    }
+
+    private static void feedAndEnd() {
+        TurningRoads roads = new TurningRoads();
+        // "way 0 1 5;goer 0 1 0", the highest byte first
+        Check.due("feed", roads.feed(0x77617920, 0x30203120, 0x353b676f, 0x65722030, 0x20312030), 20);
+        Check.due("what was fed", roads.land(), 1);
+        Check.due("its way to", roads.way(0, 1), 1);
+        Check.due("its minutes", roads.way(0, 2), 5);
+        Check.due("its goer's aim", roads.goer(0, 1), 1);
+        Check.due("the tape is empty then", roads.count(9), 0);
+        for (int i = 1; i <= 20; i++) {
+            Check.due("feed " + i, roads.feed(-1, i, Integer.MIN_VALUE, Integer.MAX_VALUE, 0), 20 * i);
+        }
+        Check.due("feed beyond 400", roads.feed(0, 0, 0, 0, 0), -1);
+        Check.due("none came", roads.count(9), 400);
+        Check.due("end above", roads.end(401), -1);
+        Check.due("end below 0", roads.end(-1), -1);
+        Check.due("end far below 0", roads.end(Integer.MIN_VALUE), -1);
+        Check.due("still all", roads.count(9), 400);
+        Check.due("end 400", roads.end(400), 400);
+        Check.due("end 381", roads.end(381), 381);
+        Check.due("no room for twenty", roads.feed(0, 0, 0, 0, 0), -1);
+        Check.due("end 380", roads.end(380), 380);
+        Check.due("end with more than there are", roads.end(381), -1);
+        Check.due("room for twenty", roads.feed(0, 0, 0, 0, 0), 400);
+        Check.due("end 0", roads.end(0), 0);
+        Check.due("end 1 of none", roads.end(1), -1);
+        Check.due("bytes", roads.count(9), 0);
+    }
+
+    private static void landFault(String text, int place, int kind) {
+        TurningRoads roads = Check.of("way 3 4 9;goer 5 6 7");
+        Check.due("land '" + text + "'", Check.land(roads, text), Check.fault(place, kind));
+        Check.due("the tape stays at '" + text + "'", roads.count(9), text.length());
+        Check.due("the ways stay at '" + text + "'", roads.way(0, 2), 9);
+        Check.due("the goers stay at '" + text + "'", roads.goer(0, 1), 6);
+        Check.due("no way more at '" + text + "'", roads.count(0), 1);
+        Check.due("again '" + text + "'", roads.land(), Check.fault(place, kind));
+    }
+
+    private static void landFits(String text, int ways, int goers) {
+        TurningRoads roads = new TurningRoads();
+        Check.due("land '" + text + "'", Check.land(roads, text), ways);
+        Check.due("goers of '" + text + "'", roads.count(1), goers);
+        Check.due("the tape behind '" + text + "'", roads.count(9), 0);
+    }
+
+    private static String times(String piece, int n, String between) {
+        StringBuilder b = new StringBuilder();
+        for (int i = 0; i < n; i++) {
+            b.append(i > 0 ? between : "").append(piece);
+        }
+        return b.toString();
+    }
+
+    private static void landFaults() {
+        landFault("", 0, 0);
+        landFault("   ", 3, 0);
+        landFault("way", 3, 0);
+        landFault("way 0", 5, 0);
+        landFault("way 0 1", 7, 0);
+        landFault("way 0 1 ", 8, 0);
+        landFault("way 0 1 5;", 10, 0);
+        landFault("way 0 1 5 ; ", 12, 0);
+        landFault("way 0 1 5;;way 0 1 5", 10, 0);
+        landFault(";way 0 1 5", 0, 0);
+        landFault("way 8 1 5", 4, 1);
+        landFault("way 0 8 5", 6, 1);
+        landFault("way 0 0 5", 6, 1);
+        landFault("way  3   3 5", 9, 1);
+        landFault("way 0 1 0", 8, 1);
+        landFault("way 0 1 61", 8, 1);
+        landFault("way 0 1 000005", 8, 1);
+        landFault("way 000001 1 5", 4, 1);
+        landFault("way 9999999999999 1 5", 4, 1);
+        landFault("wayx 0 1 5", 0, 0);
+        landFault("wa 0 1 5", 0, 0);
+        landFault("waygoer 0 1 5", 0, 0);
+        landFault("minutesminutes 0 1 5", 0, 0);
+        landFault("Way 0 1 5", 0, 0);
+        landFault(" take 1", 1, 0);
+        landFault("way 0 1 5 6", 10, 0);
+        landFault("way 0 1 5,", 9, 0);
+        landFault("way 0 1 5x", 9, 0);
+        landFault("way 0 1 -5", 8, 0);
+        landFault("way\t0 1 5", 3, 0);
+        landFault("way 0 1 5\0", 9, 0);
+        landFault("way 0 1 5\u00ff", 9, 0);
+        landFault("goer 8 1 5", 5, 1);
+        landFault("goer 0 8 5", 7, 1);
+        landFault("goer 0 1 1000", 9, 1);
+        landFault("goer 0 1", 8, 0);
+        landFault("goer 0 goer", 7, 0);
+        landFault("way 8 9 99", 4, 1);
+        String ways = times("way 0 1 5", 14, ";");
+        landFault(ways + ";way 0 1 5", ways.length() + 1, 4);
+        landFault(ways + "; way 9", ways.length() + 2, 4);
+        landFault(ways + ";wax", ways.length() + 1, 0);
+        landFault(ways + ";", ways.length() + 1, 0);
+        String goers = times("goer 0 1 5", 6, ";");
+        landFault(goers + ";goer 0 1 5", goers.length() + 1, 4);
+        landFault(ways + ";" + goers + ";way 0 1 1", ways.length() + goers.length() + 2, 4);
+        landFits(ways + ";" + goers, 14, 6);
+        landFits("way0 1 5", 1, 0);
+        landFits(" way 0 1 00060 ", 1, 0);
+        landFits("way 0 00007 1;goer 7 7 999", 1, 1);
+        landFits("goer 0 1 0 ;goer 2 2 00999;way 7 0 60", 1, 2);
+    }
+
+    private static void landAnew() {
+        TurningRoads roads = Check.of("way 0 1 2;way 1 0 2;goer 0 1 0;goer 2 2 0;goer 1 0 0", "take 1");
+        roads.seed(77);
+        Check.due("go", roads.go(0, 0), 1);
+        Check.due("row", roads.row(0, 1), 1);
+        Check.due("image", roads.image(2), 0);
+        roads.tick(0, 3);
+        Check.due("land anew", Check.land(roads, "way 4 5 6;way 5 4 1;goer 5 5 3"), 2);
+        int[] counts = {2, 1, 1, 0, 0, 0, 0, 0, 77, 0};
+        for (int what = 0; what < counts.length; what++) {
+            Check.due("count " + what + " of a new land", roads.count(what), counts[what]);
+        }
+        Check.due("gone", roads.way(0, 3), 0);
+        Check.due("last", roads.way(0, 4), 0);
+        Check.due("from", roads.way(0, 0), 4);
+        Check.due("leaves", roads.goer(0, 2), 3);
+        Check.due("home of one who stands at his aim", roads.goer(0, 5), 0);
+        Check.due("the images stay", roads.back(2), 0);
+        Check.due("and the land comes back", roads.count(1), 3);
+        Check.due("with its going", roads.way(0, 3), 1);
+    }
+
+    private static void ruleFault(String text, int place, int kind) {
+        TurningRoads roads = new TurningRoads();
+        Check.due("rule '" + text + "'", Check.rule(roads, text), Check.fault(place, kind));
+        Check.due("no rule by '" + text + "'", roads.count(2), 0);
+        Check.due("the tape stays at '" + text + "'", roads.count(9), text.length());
+    }
+
+    private static void ruleFits(String text) {
+        TurningRoads roads = new TurningRoads();
+        Check.due("rule '" + text + "'", Check.rule(roads, text), 0);
+        Check.due("one rule by '" + text + "'", roads.count(2), 1);
+        Check.due("the tape behind '" + text + "'", roads.count(9), 0);
+    }
+
+    private static void ruleFaults() {
+        ruleFault("", 0, 0);
+        ruleFault("take", 4, 0);
+        ruleFault("take ", 5, 0);
+        ruleFault("way 0 1 5", 0, 0);
+        ruleFault("taken 1", 0, 0);
+        ruleFault("take 1 if", 9, 0);
+        ruleFault("take 1 if 1", 11, 0);
+        ruleFault("take 1 if 1 <", 13, 0);
+        ruleFault("take 123456", 5, 1);
+        ruleFault("take 1 if 1 < 000001", 14, 1);
+        ruleFault("take 1;", 7, 0);
+        ruleFault("take 1 +", 8, 0);
+        ruleFault("take + 1", 5, 0);
+        ruleFault("take -1", 5, 0);
+        ruleFault("take foo", 5, 0);
+        ruleFault("take if", 5, 0);
+        ruleFault("take wayif 1<2", 5, 0);
+        ruleFault("take 1 1", 7, 0);
+        ruleFault("take [ 1 ]", 5, 0);
+        ruleFault("take 1 < 2", 7, 0);
+        ruleFault("wait 1", 6, 0);
+        ruleFault("wait 1 if 2", 7, 0);
+        ruleFault("wait [1<2", 9, 0);
+        ruleFault("wait 1<2]", 8, 0);
+        ruleFault("wait [1]", 7, 0);
+        ruleFault("wait 1 < = 2", 9, 0);
+        ruleFault("wait 1 => 2", 8, 0);
+        ruleFault("wait 1<>2", 7, 0);
+        ruleFault("wait 1<2<3", 8, 0);
+        ruleFault("wait not", 8, 0);
+        ruleFault("wait 1<2 and", 12, 0);
+        ruleFault("wait 1<2 or or 1<2", 12, 0);
+        ruleFault("wait 1<2 andd 1<2", 9, 0);
+        ruleFault("wait 1<2 not 1<2", 9, 0);
+        ruleFault("take 1 wait 1<2", 7, 0);
+        ruleFault("take WAY", 5, 0);
+        ruleFault("take 1\n", 6, 0);
+        ruleFault("wait " + times("[", 11, "") + "1<2" + times("]", 11, ""), 15, 2);
+        ruleFault("wait " + times("not", 11, " ") + " 1<2", 5 + 40, 2);
+        ruleFault("wait " + times("not[", 6, "") + "1<2" + times("]", 6, ""), 5 + 20, 2);
+        ruleFault("wait " + times("[", 10, "") + "not 1<2", 15, 2);
+        ruleFault("wait " + times("[", 10, "") + "1<2" + times("]", 9, ""), 5 + 10 + 3 + 9, 0);
+        ruleFault("take " + times("1", 61, "+"), 5 + 120, 3);
+        ruleFault("take " + times("1", 60, "+") + "+foo", 5 + 120, 0);
+        ruleFault("take " + times("1", 60, "+") + "+123456", 5 + 120, 1);
+        ruleFault("take " + times("1", 60, "+") + " if 1<2", 5 + 119 + 4, 3);
+        ruleFault("take 1;take " + times("1", 60, "*"), 12 + 118, 3);
+        String facts = "wait " + times("1<1", 19, " and ");
+        ruleFault(facts + " or 1+1+1<1", facts.length() + 9, 3);
+        ruleFault(facts + " or 1+1 <= 1", facts.length() + 11, 3);
+        ruleFault(facts + " or 1<1 or 1<1", facts.length() + 11, 3);
+        ruleFault(facts + " or 1+1+1+1", facts.length() + 10, 3);
+        ruleFault(facts + " or 1+1+1!", facts.length() + 9, 0);
+        String clauses = times("take 1", 12, ";");
+        ruleFault(clauses + ";take 1", clauses.length() + 1, 4);
+        ruleFault(clauses + "; wait 1<2", clauses.length() + 2, 4);
+        ruleFault(clauses + ";if", clauses.length() + 1, 0);
+        ruleFault(clauses + ";", clauses.length() + 1, 0);
+    }
+
+    private static void rulesThatFit() {
+        ruleFits("take 1");
+        ruleFits(" take99999 ; wait1<2 ");
+        ruleFits("take way+minutes-gone*last/to+far-out+there-goer+aim-clock+on");
+        ruleFits("take 1 if not not[1<2]or 1>=2 and 3 = 4;wait not 1 <=2");
+        ruleFits("wait " + times("[", 10, "") + "1<2" + times("]", 10, ""));
+        ruleFits("wait " + times("not", 10, " ") + " 1<2");
+        ruleFits("wait " + times("not[", 5, "") + "1<2" + times("]", 5, "") + "and" + times("[", 10, "") + "1<2" + times("]", 10, ""));
+        ruleFits("take " + times("1", 60, "+"));
+        ruleFits("wait " + times("1<1", 20, " and "));
+        ruleFits(times("take 1", 12, ";"));
+        ruleFits("take 00000");
+    }
+
+    private static void sixRules() {
+        TurningRoads roads = new TurningRoads();
+        for (int i = 0; i < 6; i++) {
+            Check.due("rule " + i, Check.rule(roads, "take " + i), i);
+            Check.due("a fault between", Check.rule(roads, "tak"), i < 5 ? Check.fault(0, 0) : -1);
+        }
+        Check.due("a seventh", Check.rule(roads, "take 1"), -1);
+        Check.due("rules", roads.count(2), 6);
+        Check.due("the tape stays", roads.count(9), 6);
+        Check.due("a new land", Check.land(roads, "way 0 1 1"), 1);
+        Check.due("leaves the rules", roads.count(2), 6);
+    }
+
+    public static void main(String[] args) {
+        newObject();
+        feedAndEnd();
+        landFaults();
+        landAnew();
+        ruleFaults();
+        rulesThatFit();
+        sixRules();
+        Check.finish();
+    }
+}
