@@ -706,18 +706,20 @@ public final class TurningRoads {
         final int clauses;
         /** Bits: which CLAUSES are wait. */
         final int waits;
-        final boolean usesFar;
+        /** Bits: which words stand in it. */
+        final int words;
 
         Rule(int[] code, int[] bounds, int clauses, int waits) {
             this.code = code;
             this.bounds = bounds;
             this.clauses = clauses;
             this.waits = waits;
-            boolean foundFar = false;
+            int found = 0;
             for (int i = 0; i < code.length; i++) {
-                foundFar |= code[i] == FIRST_WORD - Tape.FAR;
+                boolean isWord = code[i] < 0 && code[i] > PLUS;
+                found |= isWord ? 1 << FIRST_WORD - code[i] : 0;
             }
-            usesFar = foundFar;
+            words = found;
         }
 
         int begin(int clause) {
@@ -734,6 +736,10 @@ public final class TurningRoads {
 
         boolean isWait(int clause) {
             return (waits >> clause & 1) != 0;
+        }
+
+        boolean uses(int word) {
+            return (words >> word & 1) != 0;
         }
 
         boolean hasTest(int clause) {
@@ -1306,10 +1312,9 @@ public final class TurningRoads {
         private final int[] farWhen = new int[PLACES];
         private State state = null;
         private Rule rule = null;
-        /** Whom, which WAY (NONE in wait) and which PLACE the words are about. */
+        /** What each word of the RULE is worth, for one GOER and one WAY (or his PLACE, in wait). */
+        private final long[] words = new long[Tape.ON + 1];
         private int goer = 0;
-        private int way = NONE;
-        private int about = 0;
 
         void pass(State whose, Rule by, int n) {
             state = whose;
@@ -1352,7 +1357,10 @@ public final class TurningRoads {
                     continue;
                 }
                 goer = who;
-                if (rule.usesFar) {
+                words[Tape.GOER] = who;
+                words[Tape.AIM] = folk.aim[who];
+                words[Tape.CLOCK] = state.clock;
+                if (rule.uses(Tape.FAR)) {
                     findFar(folk.aim[who]);
                 }
                 int chosen = waits() ? NONE : choose();
@@ -1363,8 +1371,15 @@ public final class TurningRoads {
         }
 
         private boolean waits() {
-            way = NONE;
-            about = state.folk.place[goer];
+            if (rule.waits == 0) {
+                return false;
+            }
+            lookAtPlace(state.folk.place[goer]);
+            words[Tape.WAY] = 0;
+            words[Tape.MINUTES] = 0;
+            words[Tape.GONE] = 0;
+            words[Tape.LAST] = 0;
+            words[Tape.ON] = 0;
             for (int clause = 0; clause < rule.clauses; clause++) {
                 if (rule.isWait(clause) && evaluate(rule.split(clause), rule.close(clause)) != 0) {
                     return true;
@@ -1382,8 +1397,8 @@ public final class TurningRoads {
                 if ((ways >> by & 1) == 0) {
                     continue;
                 }
-                way = by;
-                about = state.roads.head(by);
+                lookAtPlace(state.roads.head(by));
+                lookAtWay(by);
                 int clause = takeClause();
                 if (clause == NONE) {
                     continue;
@@ -1415,9 +1430,9 @@ public final class TurningRoads {
             int height = 0;
             for (int i = from; i < to && i < code.length; i++) {
                 int coding = code[i];
-                if (coding >= 0 || coding > Rule.PLUS) {
+                if (coding > Rule.PLUS) {
                     if (height < stack.length) {
-                        stack[height] = coding >= 0 ? coding : wordValue(Rule.FIRST_WORD - coding);
+                        stack[height] = coding >= 0 ? coding : words[Rule.FIRST_WORD - coding];
                         height++;
                     }
                 } else if (coding == Rule.NOT) {
@@ -1459,33 +1474,27 @@ public final class TurningRoads {
             }
         }
 
-        private long wordValue(int word) {
-            switch (word) {
-                case Tape.WAY:
-                    return way == NONE ? 0 : way;
-                case Tape.MINUTES:
-                    return way == NONE ? 0 : state.roads.minutes[way];
-                case Tape.GONE:
-                    return way == NONE ? 0 : state.roads.gone[way];
-                case Tape.LAST:
-                    return way == NONE ? 0 : state.roads.last[way];
-                case Tape.TO:
-                    return about;
-                case Tape.FAR:
-                    int far = farTo[state.folk.aim[goer]] >> 4 * about & 15;
-                    return far == NO_PATH ? FAR_AWAY : far;
-                case Tape.OUT:
-                    return Integer.bitCount(state.roads.away(about));
-                case Tape.THERE:
-                    return state.folk.countAt(about);
-                case Tape.GOER:
-                    return goer;
-                case Tape.AIM:
-                    return state.folk.aim[goer];
-                case Tape.CLOCK:
-                    return state.clock;
-                default:
-                    return way == NONE ? 0 : state.folk.countOn(way);
+        private void lookAtPlace(int place) {
+            words[Tape.TO] = place;
+            if (rule.uses(Tape.FAR)) {
+                int far = farTo[state.folk.aim[goer]] >> 4 * place & 15;
+                words[Tape.FAR] = far == NO_PATH ? FAR_AWAY : far;
+            }
+            if (rule.uses(Tape.OUT)) {
+                words[Tape.OUT] = Integer.bitCount(state.roads.away(place));
+            }
+            if (rule.uses(Tape.THERE)) {
+                words[Tape.THERE] = state.folk.countAt(place);
+            }
+        }
+
+        private void lookAtWay(int way) {
+            words[Tape.WAY] = way;
+            words[Tape.MINUTES] = state.roads.minutes[way];
+            words[Tape.GONE] = state.roads.gone[way];
+            words[Tape.LAST] = state.roads.last[way];
+            if (rule.uses(Tape.ON)) {
+                words[Tape.ON] = state.folk.countOn(way);
             }
         }
 
