@@ -171,6 +171,24 @@ public final class MinutesPromisesTest {
         tested("99999*99999*99999*99999*99999 < 0", 99999L * 99999L * 99999L * 99999L * 99999L < 0);
     }
 
+    /** Six rules that are as long as can be; each takes the WAY of its own number. */
+    private static void longRules() {
+        StringBuilder land = new StringBuilder();
+        String[] rules = new String[6];
+        for (int i = 0; i < 6; i++) {
+            land.append("way 0 ").append(i + 1).append(" 1;");
+            StringBuilder sum = new StringBuilder("take 0");
+            for (int k = 0; k < 54; k++) {
+                sum.append(k % 2 == 0 ? "+1" : "*0");
+            }
+            rules[i] = "take 2 if way=" + i + ";" + sum;
+        }
+        TurningRoads roads = Check.of(land + "goer 0 7 0", rules);
+        for (int i = 0; i < 6; i++) {
+            Check.due("long rule " + i, roads.ahead(i, 2, 3), 1 << i);
+        }
+    }
+
     private static void waits() {
         // in wait: his own PLACE, himself counted; the WAY's words are 0
         String land = "way 3 1 5;way 3 2 6;way 1 4 1;goer 3 4 0;goer 3 3 0";
@@ -230,6 +248,7 @@ public final class MinutesPromisesTest {
     private static void finest() {
         TurningRoads roads = Check.of("way 0 1 3;way 0 2 1;goer 0 1 0", "take way", "take 5 - way", "take 1", "take 5 - way");
         Check.due("the least that brings him there", roads.finest(10), 1);
+        Check.due("in 600", roads.finest(600), 1);
         Check.due("all alike", roads.finest(0), 0);
         Check.due("all alike in 3", roads.finest(3), 0);
         Check.due("in 4", roads.finest(4), 1);
@@ -288,6 +307,7 @@ public final class MinutesPromisesTest {
         meetings();
         words();
         tests();
+        longRules();
         waits();
         sameMinute();
         finest();

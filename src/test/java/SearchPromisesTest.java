@@ -76,6 +76,13 @@ public final class SearchPromisesTest {
         Check.due("first the one who can", change.step(3, 0), 16);
         Check.due("then he", change.step(3, 1), 0);
         Check.due("sums of that", change.closed(3, 1), 1);
+        StringBuilder star = new StringBuilder();
+        for (int i = 0; i < 14; i++) {
+            star.append("way 0 ").append(i == 13 ? 2 : 1).append(" 1;");
+        }
+        TurningRoads fourteen = Check.of(star + "goer 0 2 0");
+        Check.due("14 ways from one place", fourteen.fewest(1), 1);
+        Check.due("by the last of them", fourteen.step(1, 0), 13);
         TurningRoads others = Check.of("way 1 0 1;goer 0 1 0;goer 1 0 0");
         Check.due("the others stay", others.fewest(1), -2);
     }
@@ -129,6 +136,8 @@ public final class SearchPromisesTest {
             Check.of("way 1 0 1;goer 0 1 0;goer 5 5 0;goer 1 1 0;goer 1 1 0").decoys(0), 4);
         Check.due("two must go ahead",
             Check.of("way 1 0 1;way 1 2 1;way 3 2 1;goer 0 3 0;goer 1 1 0;goer 3 3 0").decoys(0), 6);
+        Check.due("one of a greater number rather than two",
+            Check.of("way 1 0 1;way 1 2 1;way 3 2 1;way 4 0 1;way 4 3 1;goer 0 3 0;goer 1 1 0;goer 3 3 0;goer 4 4 0").decoys(0), 8);
         TurningRoads busy = Check.of("way 1 0 9;way 1 3 9;goer 0 1 0;goer 1 3 0", "take way");
         busy.tick(0, 1);
         Check.due("one on a way is no decoy", busy.decoys(0), -2);

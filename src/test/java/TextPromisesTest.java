@@ -110,6 +110,8 @@ public final class TextPromisesTest {
         landFault("way 9999999999999 1 5", 4, 1);
         landFault("wayx 0 1 5", 0, 0);
         landFault("wa 0 1 5", 0, 0);
+        landFault("wayz 0 1 5", 0, 0);
+        landFault("waya 0 1 5", 0, 0);
         landFault("waygoer 0 1 5", 0, 0);
         landFault("minutesminutes 0 1 5", 0, 0);
         landFault("Way 0 1 5", 0, 0);
