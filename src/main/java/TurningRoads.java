@@ -26,8 +26,8 @@ public final class TurningRoads {
     private final State spare = new State();
     private final State[] images = new State[MOST_IMAGES];
     private final Minutes minutes = new Minutes();
-    private final Search search = new Search();
-    private final Circle circle = new Circle();
+    private final Search search = new Search(now);
+    private final Circle circle = new Circle(now);
     private int ruleCount = 0;
 
     public TurningRoads() {
@@ -176,8 +176,8 @@ public final class TurningRoads {
         if (!canSearch(goers)) {
             return NONE;
         }
-        search.begin(now, goers);
-        int goings = search.fewestGoings(now.folk);
+        search.begin(goers);
+        int goings = search.fewestGoings();
         return goings < 0 ? CANNOT : goings;
     }
 
@@ -185,15 +185,15 @@ public final class TurningRoads {
         if (!canSearch(goers) || k < 0 || k > 999) {
             return NONE;
         }
-        search.begin(now, goers);
-        return search.firstRow(now.folk, k);
+        search.begin(goers);
+        return search.firstRow(k);
     }
 
     public int comes(int goers, int directions) {
         if (!canSearch(goers) || directions < 0 || directions >= now.roads.allDirections()) {
             return NONE;
         }
-        search.begin(now, goers);
+        search.begin(goers);
         return search.comesTo(directions) ? 1 : 0;
     }
 
@@ -204,7 +204,7 @@ public final class TurningRoads {
         if (what == 1) {
             return now.roads.directionsOf(outwardsAtAims(goers)) > 0 ? 1 : 0;
         }
-        search.begin(now, goers);
+        search.begin(goers);
         return search.closedDirections();
     }
 
@@ -232,7 +232,7 @@ public final class TurningRoads {
         if (!now.folk.stands(goer) || places < 0 || places > 255 || now.roads.size > 9) {
             return NONE;
         }
-        search.begin(now, 1 << goer);
+        search.begin(1 << goer);
         int goings = search.postRound(places, back);
         return goings < 0 ? CANNOT : goings;
     }
@@ -241,7 +241,7 @@ public final class TurningRoads {
         if (!canCircle(goer) || n < 0 || n > MOST_PACES || what < 0 || what > 2) {
             return NONE;
         }
-        circle.begin(now, goer);
+        circle.begin(goer);
         int paces = circle.run(n);
         return what == 0 ? circle.place : what == 1 ? circle.directions : paces;
     }
@@ -250,7 +250,7 @@ public final class TurningRoads {
         if (!canCircle(goer)) {
             return NONE;
         }
-        circle.begin(now, goer);
+        circle.begin(goer);
         int paces = circle.pacesToCover();
         return paces < 0 ? CANNOT : paces;
     }
@@ -259,7 +259,7 @@ public final class TurningRoads {
         if (!canCircle(goer) || what < 0 || what > 1) {
             return NONE;
         }
-        circle.begin(now, goer);
+        circle.begin(goer);
         int round = circle.findRound();
         if (round < 0) {
             return CANNOT;
@@ -455,8 +455,8 @@ public final class TurningRoads {
     }
 
     private boolean helps(int decoySet, int goer) {
-        search.begin(now, decoySet | 1 << goer);
-        return search.canStandAt(goer, now.folk.aim[goer]);
+        search.begin(decoySet | 1 << goer);
+        return search.canReachAim(goer);
     }
 
     /** How many WAYS should lead away from each PLACE so that KEPT stays as it is with the set at its aims. */
@@ -1317,6 +1317,9 @@ public final class TurningRoads {
         private int goer = 0;
 
         void pass(State whose, Rule by, int n) {
+            if (whose == null || by == null) {
+                return;
+            }
             state = whose;
             rule = by;
             for (int place = 0; place < PLACES; place++) {
@@ -1538,40 +1541,45 @@ public final class TurningRoads {
         private int levelBegin = 0;
         private final int[] who = new int[MOST_GOERS];
         private int size = 0;
-        private Roads roads = null;
+        private final Roads roads;
+        private final Folk folk;
         private int ways = 0;
         /** The WAYS (bits) on which nobody is. */
         private int openWays = 0;
         private int start = 0;
         private int asked = 0;
 
-        void begin(State state, int goers) {
+        Search(State state) {
             roads = state.roads;
+            folk = state.folk;
+        }
+
+        void begin(int goers) {
             ways = roads.size;
-            openWays = ~state.folk.busyWays();
+            openWays = ~folk.busyWays();
             asked = 0;
             size = 0;
             start = roads.directions;
-            for (int goer = 0; goer < state.folk.size; goer++) {
+            for (int goer = 0; goer < folk.size; goer++) {
                 if ((goers >> goer & 1) != 0) {
                     who[size] = goer;
-                    start |= (state.folk.place[goer] & 7) << shift(size);
+                    start |= (folk.place[goer] & 7) << shift(size);
                     size++;
                 }
             }
         }
 
-        int fewestGoings(Folk folk) {
+        int fewestGoings() {
             launch(start, shift(size));
-            int goings = seek(places(), aims(folk));
+            int goings = seek(places(), aims());
             forget();
             return goings;
         }
 
         /** 16 * GOER + WAY of the k-th GOING of the FIRST ROW; CANNOT if there is none. */
-        int firstRow(Folk folk, int k) {
+        int firstRow(int k) {
             launch(start, shift(size));
-            int goal = aims(folk);
+            int goal = aims();
             int goings = seek(places(), goal);
             if (k >= goings) {
                 forget();
@@ -1602,21 +1610,23 @@ public final class TurningRoads {
         int closedDirections() {
             launch(start, shift(size));
             seek(0, 1);
+            int places = places();
             int found = 0;
             for (int i = 0; i < queued; i++) {
-                found += (queue[i] & places()) == (start & places()) ? 1 : 0;
+                found += (queue[i] & places) == (start & places) ? 1 : 0;
             }
             forget();
             return found;
         }
 
-        boolean canStandAt(int goer, int place) {
+        /** Wherever the others of the set stand then. */
+        boolean canReachAim(int goer) {
             launch(start, shift(size));
             int at = 0;
             for (int member = 0; member < size; member++) {
                 at = who[member] == goer ? shift(member) : at;
             }
-            int goings = seek(7 << at, place << at);
+            int goings = seek(7 << at, folk.aim[goer] << at);
             forget();
             return goings >= 0;
         }
@@ -1641,7 +1651,7 @@ public final class TurningRoads {
             return (1 << shift(size)) - (1 << ways);
         }
 
-        private int aims(Folk folk) {
+        private int aims() {
             int code = 0;
             for (int member = 0; member < size; member++) {
                 code |= folk.aim[who[member]] << shift(member);
@@ -1767,17 +1777,22 @@ public final class TurningRoads {
     private static final class Circle {
         int place = 0;
         int directions = 0;
-        private Roads roads = null;
+        private final Roads roads;
+        private final Folk folk;
         /** The WAYS, the one not gone by for longest first; fresh of them were never gone by. */
         private final int[] order = new int[MOST_WAYS];
         private int fresh = 0;
         /** Of each SITUATION gone through the order, and the PLACE with the DIRECTIONS. */
-        private long[] orders = null;
-        private int[] spots = null;
+        private long[] orders = new long[0];
+        private int[] spots = new int[0];
 
-        void begin(State state, int goer) {
+        Circle(State state) {
             roads = state.roads;
-            place = state.folk.place[goer] & 7;
+            folk = state.folk;
+        }
+
+        void begin(int goer) {
+            place = folk.place[goer] & 7;
             directions = roads.directions;
             fresh = 0;
             for (int way = 0; way < roads.size; way++) {
@@ -1818,7 +1833,7 @@ public final class TurningRoads {
 
         /** How many paces the round has; NONE if there is none. If any SITUATION comes again, the last one does. */
         int findRound() {
-            if (orders == null || spots == null) {
+            if (orders.length == 0) {
                 orders = new long[MOST_PACES + 1];
                 spots = new int[MOST_PACES + 1];
             }
