@@ -69,12 +69,13 @@ public final class TurningRoads {
             return NONE;
         }
         Rule told = ruleReader.read();
+        // Unlike a land's, a rule's fault does not keep the tape: the document lets all stay for a land alone.
+        tape.length = 0;
         if (told == null) {
             return CANNOT - tape.fault;
         }
         rules[ruleCount] = told;
         ruleCount++;
-        tape.length = 0;
         return ruleCount - 1;
     }
 

@@ -170,7 +170,9 @@ public final class TextPromisesTest {
         TurningRoads roads = new TurningRoads();
         Check.due("rule '" + text + "'", Check.rule(roads, text), Check.fault(place, kind));
         Check.due("no rule by '" + text + "'", roads.count(2), 0);
-        Check.due("the tape stays at '" + text + "'", roads.count(9), text.length());
+        Check.due("the tape is empty behind '" + text + "'", roads.count(9), 0);
+        Check.due("nothing is left of '" + text + "'", roads.rule(), Check.fault(0, 0));
+        Check.due("a rule behind '" + text + "'", Check.rule(roads, "take 1"), 0);
     }
 
     private static void ruleFits(String text) {
@@ -255,11 +257,32 @@ public final class TextPromisesTest {
         ruleFits("take 00000");
     }
 
+    private static void tapeBehindAFault() {
+        TurningRoads roads = Check.of("way 0 1 5;goer 0 1 0", "take 1");
+        // "take way +" and ten blanks: the fault is the end, behind the last byte
+        Check.due("feed", roads.feed(1952541541, 544694649, 539697184, 538976288, 538976288), 20);
+        Check.due("rule", roads.rule(), -163);
+        Check.due("bytes", roads.count(9), 0);
+        Check.due("no byte to keep", roads.end(1), -1);
+        int[] counts = {1, 1, 1, 0, 0, 0, 0, 0, 0, 0};
+        for (int what = 0; what < counts.length; what++) {
+            Check.due("count " + what + " behind a fault", roads.count(what), counts[what]);
+        }
+        for (int i = 1; i <= 20; i++) {
+            Check.due("feed " + i, roads.feed(0x20202020, 0x20202020, 0x20202020, 0x20202020, 0x20202020), 20 * i);
+        }
+        Check.due("a full tape of blanks", roads.rule(), Check.fault(400, 0));
+        Check.due("is empty, too", roads.count(9), 0);
+        Check.due("and takes bytes from its begin", roads.feed(1952541541, 540090400, 0x20202020, 0x20202020, 0x20202020), 20);
+        Check.due("a rule", roads.rule(), 1);
+    }
+
     private static void sixRules() {
         TurningRoads roads = new TurningRoads();
         for (int i = 0; i < 6; i++) {
             Check.due("rule " + i, Check.rule(roads, "take " + i), i);
             Check.due("a fault between", Check.rule(roads, "tak"), i < 5 ? Check.fault(0, 0) : -1);
+            Check.due("bytes behind it", roads.count(9), i < 5 ? 0 : 3);
         }
         Check.due("a seventh", Check.rule(roads, "take 1"), -1);
         Check.due("rules", roads.count(2), 6);
@@ -275,6 +298,7 @@ public final class TextPromisesTest {
         landAnew();
         ruleFaults();
         rulesThatFit();
+        tapeBehindAFault();
         sixRules();
         Check.finish();
     }

@@ -337,12 +337,13 @@ final class PlainRoads {
 
     int rule() {
         if (rules.size() == 6) { return -1; }
+        String text = tape.toString();
+        tape.setLength(0);
         try {
-            rules.add(new Reader(tape.toString()).rule());
+            rules.add(new Reader(text).rule());
         } catch (Fault f) {
             return -2 - f.code;
         }
-        tape.setLength(0);
         return rules.size() - 1;
     }
 
