@@ -133,42 +133,34 @@ public final class MinutesPromisesTest {
         worth("way 0 1 7;way 0 2 1;goer 0 5 4;goer 0 1 2", 4, "on", 1);
     }
 
-    /** By the rule he goes by WAY 1 if the TEST holds for WAY 1, else by WAY 0. */
-    private static void tested(String test, boolean holds) {
-        TurningRoads roads = Check.of("way 0 1 1;way 0 2 1;goer 0 5 0", "take 1 if way = 0;take 2 if " + test);
-        Check.due("take if " + test, roads.ahead(0, 2, 3), holds ? 2 : 1);
-        TurningRoads waiting = Check.of("way 0 1 1;way 0 2 1;goer 0 5 0", "take 1;wait " + test);
-        Check.due("wait " + test, waiting.ahead(0, 2, 2), holds ? 0 : 1);
-    }
-
     private static void tests() {
-        tested("1 < 2", true);
-        tested("2 < 2", false);
-        tested("2 <= 2", true);
-        tested("3 <= 2", false);
-        tested("2 = 2", true);
-        tested("2 = 1", false);
-        tested("2 >= 2", true);
-        tested("1 >= 2", false);
-        tested("2 > 2", false);
-        tested("3 > 2", true);
-        tested("not 3 > 2", false);
-        tested("not not 3 > 2", true);
-        tested("1 < 2 and 2 < 1", false);
-        tested("1 < 2 or 2 < 1", true);
-        tested("1 < 2 or 1 < 2 and 2 < 1", true);
-        tested("2 < 1 and 1 < 2 or 1 < 2", true);
-        tested("[1 < 2 or 1 < 2] and 2 < 1", false);
-        tested("not 2 < 1 and 2 < 1", false);
-        tested("not [2 < 1 and 2 < 1]", true);
-        tested("2 < 1 or 2 < 1 or 1 < 2", true);
-        tested("not 1 < 2 or 1 < 2", true);
-        tested("0 - 7 / 2 = 0 - 3", true);
+        Told.tested("1 < 2", true);
+        Told.tested("2 < 2", false);
+        Told.tested("2 <= 2", true);
+        Told.tested("3 <= 2", false);
+        Told.tested("2 = 2", true);
+        Told.tested("2 = 1", false);
+        Told.tested("2 >= 2", true);
+        Told.tested("1 >= 2", false);
+        Told.tested("2 > 2", false);
+        Told.tested("3 > 2", true);
+        Told.tested("not 3 > 2", false);
+        Told.tested("not not 3 > 2", true);
+        Told.tested("1 < 2 and 2 < 1", false);
+        Told.tested("1 < 2 or 2 < 1", true);
+        Told.tested("1 < 2 or 1 < 2 and 2 < 1", true);
+        Told.tested("2 < 1 and 1 < 2 or 1 < 2", true);
+        Told.tested("[1 < 2 or 1 < 2] and 2 < 1", false);
+        Told.tested("not 2 < 1 and 2 < 1", false);
+        Told.tested("not [2 < 1 and 2 < 1]", true);
+        Told.tested("2 < 1 or 2 < 1 or 1 < 2", true);
+        Told.tested("not 1 < 2 or 1 < 2", true);
+        Told.tested("0 - 7 / 2 = 0 - 3", true);
         String below = "99999*99999*99999*99999*99999";
-        tested(below + " < 0", true);
-        tested(below + "/2*2 = 1 + " + below, true);
-        tested("99999*99999*99999*99999 < 0", 99999L * 99999L * 99999L * 99999L < 0);
-        tested("99999*99999*99999*99999*99999 < 0", 99999L * 99999L * 99999L * 99999L * 99999L < 0);
+        Told.tested(below + " < 0", true);
+        Told.tested(below + "/2*2 = 1 + " + below, true);
+        Told.tested("99999*99999*99999*99999 < 0", 99999L * 99999L * 99999L * 99999L < 0);
+        Told.tested("99999*99999*99999*99999*99999 < 0", 99999L * 99999L * 99999L * 99999L * 99999L < 0);
     }
 
     /** Six rules that are as long as can be; each takes the WAY of its own number. */

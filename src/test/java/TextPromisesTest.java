@@ -63,85 +63,60 @@ public final class TextPromisesTest {
         Check.due("bytes", roads.count(9), 0);
     }
 
-    private static void landFault(String text, int place, int kind) {
-        TurningRoads roads = Check.of("way 3 4 9;goer 5 6 7");
-        Check.due("land '" + text + "'", Check.land(roads, text), Check.fault(place, kind));
-        Check.due("the tape stays at '" + text + "'", roads.count(9), text.length());
-        Check.due("the ways stay at '" + text + "'", roads.way(0, 2), 9);
-        Check.due("the goers stay at '" + text + "'", roads.goer(0, 1), 6);
-        Check.due("no way more at '" + text + "'", roads.count(0), 1);
-        Check.due("again '" + text + "'", roads.land(), Check.fault(place, kind));
-    }
-
-    private static void landFits(String text, int ways, int goers) {
-        TurningRoads roads = new TurningRoads();
-        Check.due("land '" + text + "'", Check.land(roads, text), ways);
-        Check.due("goers of '" + text + "'", roads.count(1), goers);
-        Check.due("the tape behind '" + text + "'", roads.count(9), 0);
-    }
-
-    private static String times(String piece, int n, String between) {
-        StringBuilder b = new StringBuilder();
-        for (int i = 0; i < n; i++) {
-            b.append(i > 0 ? between : "").append(piece);
-        }
-        return b.toString();
-    }
-
     private static void landFaults() {
-        landFault("", 0, 0);
-        landFault("   ", 3, 0);
-        landFault("way", 3, 0);
-        landFault("way 0", 5, 0);
-        landFault("way 0 1", 7, 0);
-        landFault("way 0 1 ", 8, 0);
-        landFault("way 0 1 5;", 10, 0);
-        landFault("way 0 1 5 ; ", 12, 0);
-        landFault("way 0 1 5;;way 0 1 5", 10, 0);
-        landFault(";way 0 1 5", 0, 0);
-        landFault("way 8 1 5", 4, 1);
-        landFault("way 0 8 5", 6, 1);
-        landFault("way 0 0 5", 6, 1);
-        landFault("way  3   3 5", 9, 1);
-        landFault("way 0 1 0", 8, 1);
-        landFault("way 0 1 61", 8, 1);
-        landFault("way 0 1 000005", 8, 1);
-        landFault("way 000001 1 5", 4, 1);
-        landFault("way 9999999999999 1 5", 4, 1);
-        landFault("wayx 0 1 5", 0, 0);
-        landFault("wa 0 1 5", 0, 0);
-        landFault("wayz 0 1 5", 0, 0);
-        landFault("waya 0 1 5", 0, 0);
-        landFault("waygoer 0 1 5", 0, 0);
-        landFault("minutesminutes 0 1 5", 0, 0);
-        landFault("Way 0 1 5", 0, 0);
-        landFault(" take 1", 1, 0);
-        landFault("way 0 1 5 6", 10, 0);
-        landFault("way 0 1 5,", 9, 0);
-        landFault("way 0 1 5x", 9, 0);
-        landFault("way 0 1 -5", 8, 0);
-        landFault("way\t0 1 5", 3, 0);
-        landFault("way 0 1 5\0", 9, 0);
-        landFault("way 0 1 5\u00ff", 9, 0);
-        landFault("goer 8 1 5", 5, 1);
-        landFault("goer 0 8 5", 7, 1);
-        landFault("goer 0 1 1000", 9, 1);
-        landFault("goer 0 1", 8, 0);
-        landFault("goer 0 goer", 7, 0);
-        landFault("way 8 9 99", 4, 1);
-        String ways = times("way 0 1 5", 14, ";");
-        landFault(ways + ";way 0 1 5", ways.length() + 1, 4);
-        landFault(ways + "; way 9", ways.length() + 2, 4);
-        landFault(ways + ";wax", ways.length() + 1, 0);
-        landFault(ways + ";", ways.length() + 1, 0);
-        String goers = times("goer 0 1 5", 6, ";");
-        landFault(goers + ";goer 0 1 5", goers.length() + 1, 4);
-        landFault(ways + ";" + goers + ";way 0 1 1", ways.length() + goers.length() + 2, 4);
-        landFits(ways + ";" + goers, 14, 6);
-        landFits("way0 1 5", 1, 0);
-        landFits(" way 0 1 00060 ", 1, 0);
-        landFits("way 0 00007 1;goer 7 7 999", 1, 1);
-        landFits("goer 0 1 0 ;goer 2 2 00999;way 7 0 60", 1, 2);
+        Told.landFault("", 0, 0);
+        Told.landFault("   ", 3, 0);
+        Told.landFault("way", 3, 0);
+        Told.landFault("way 0", 5, 0);
+        Told.landFault("way 0 1", 7, 0);
+        Told.landFault("way 0 1 ", 8, 0);
+        Told.landFault("way 0 1 5;", 10, 0);
+        Told.landFault("way 0 1 5 ; ", 12, 0);
+        Told.landFault("way 0 1 5;;way 0 1 5", 10, 0);
+        Told.landFault(";way 0 1 5", 0, 0);
+        Told.landFault("way 8 1 5", 4, 1);
+        Told.landFault("way 0 8 5", 6, 1);
+        Told.landFault("way 0 0 5", 6, 1);
+        Told.landFault("way  3   3 5", 9, 1);
+        Told.landFault("way 0 1 0", 8, 1);
+        Told.landFault("way 0 1 61", 8, 1);
+        Told.landFault("way 0 1 000005", 8, 1);
+        Told.landFault("way 000001 1 5", 4, 1);
+        Told.landFault("way 9999999999999 1 5", 4, 1);
+        Told.landFault("wayx 0 1 5", 0, 0);
+        Told.landFault("wa 0 1 5", 0, 0);
+        Told.landFault("wayz 0 1 5", 0, 0);
+        Told.landFault("waya 0 1 5", 0, 0);
+        Told.landFault("waygoer 0 1 5", 0, 0);
+        Told.landFault("minutesminutes 0 1 5", 0, 0);
+        Told.landFault("Way 0 1 5", 0, 0);
+        Told.landFault(" take 1", 1, 0);
+        Told.landFault("way 0 1 5 6", 10, 0);
+        Told.landFault("way 0 1 5,", 9, 0);
+        Told.landFault("way 0 1 5x", 9, 0);
+        Told.landFault("way 0 1 -5", 8, 0);
+        Told.landFault("way\t0 1 5", 3, 0);
+        Told.landFault("way 0 1 5\0", 9, 0);
+        Told.landFault("way 0 1 5\u00ff", 9, 0);
+        Told.landFault("goer 8 1 5", 5, 1);
+        Told.landFault("goer 0 8 5", 7, 1);
+        Told.landFault("goer 0 1 1000", 9, 1);
+        Told.landFault("goer 0 1", 8, 0);
+        Told.landFault("goer 0 goer", 7, 0);
+        Told.landFault("way 8 9 99", 4, 1);
+        String ways = Told.times("way 0 1 5", 14, ";");
+        Told.landFault(ways + ";way 0 1 5", ways.length() + 1, 4);
+        Told.landFault(ways + "; way 9", ways.length() + 2, 4);
+        Told.landFault(ways + ";wax", ways.length() + 1, 0);
+        Told.landFault(ways + ";", ways.length() + 1, 0);
+        String goers = Told.times("goer 0 1 5", 6, ";");
+        Told.landFault(goers + ";goer 0 1 5", goers.length() + 1, 4);
+        Told.landFault(ways + ";" + goers + ";way 0 1 1", ways.length() + goers.length() + 2, 4);
+        Told.landFits(ways + ";" + goers, 14, 6);
+        Told.landFits("way0 1 5", 1, 0);
+        Told.landFits(" way 0 1 00060 ", 1, 0);
+        Told.landFits("way 0 00007 1;goer 7 7 999", 1, 1);
+        Told.landFits("goer 0 1 0 ;goer 2 2 00999;way 7 0 60", 1, 2);
     }
 
     private static void landAnew() {
@@ -166,95 +141,79 @@ public final class TextPromisesTest {
         Check.due("with its going", roads.way(0, 3), 1);
     }
 
-    private static void ruleFault(String text, int place, int kind) {
-        TurningRoads roads = new TurningRoads();
-        Check.due("rule '" + text + "'", Check.rule(roads, text), Check.fault(place, kind));
-        Check.due("no rule by '" + text + "'", roads.count(2), 0);
-        Check.due("the tape is empty behind '" + text + "'", roads.count(9), 0);
-        Check.due("nothing is left of '" + text + "'", roads.rule(), Check.fault(0, 0));
-        Check.due("a rule behind '" + text + "'", Check.rule(roads, "take 1"), 0);
-    }
-
-    private static void ruleFits(String text) {
-        TurningRoads roads = new TurningRoads();
-        Check.due("rule '" + text + "'", Check.rule(roads, text), 0);
-        Check.due("one rule by '" + text + "'", roads.count(2), 1);
-        Check.due("the tape behind '" + text + "'", roads.count(9), 0);
-    }
-
     private static void ruleFaults() {
-        ruleFault("", 0, 0);
-        ruleFault("take", 4, 0);
-        ruleFault("take ", 5, 0);
-        ruleFault("way 0 1 5", 0, 0);
-        ruleFault("taken 1", 0, 0);
-        ruleFault("take 1 if", 9, 0);
-        ruleFault("take 1 if 1", 11, 0);
-        ruleFault("take 1 if 1 <", 13, 0);
-        ruleFault("take 123456", 5, 1);
-        ruleFault("take 1 if 1 < 000001", 14, 1);
-        ruleFault("take 1;", 7, 0);
-        ruleFault("take 1 +", 8, 0);
-        ruleFault("take + 1", 5, 0);
-        ruleFault("take -1", 5, 0);
-        ruleFault("take foo", 5, 0);
-        ruleFault("take if", 5, 0);
-        ruleFault("take wayif 1<2", 5, 0);
-        ruleFault("take 1 1", 7, 0);
-        ruleFault("take [ 1 ]", 5, 0);
-        ruleFault("take 1 < 2", 7, 0);
-        ruleFault("wait 1", 6, 0);
-        ruleFault("wait 1 if 2", 7, 0);
-        ruleFault("wait [1<2", 9, 0);
-        ruleFault("wait 1<2]", 8, 0);
-        ruleFault("wait [1]", 7, 0);
-        ruleFault("wait 1 < = 2", 9, 0);
-        ruleFault("wait 1 => 2", 8, 0);
-        ruleFault("wait 1<>2", 7, 0);
-        ruleFault("wait 1<2<3", 8, 0);
-        ruleFault("wait not", 8, 0);
-        ruleFault("wait 1<2 and", 12, 0);
-        ruleFault("wait 1<2 or or 1<2", 12, 0);
-        ruleFault("wait 1<2 andd 1<2", 9, 0);
-        ruleFault("wait 1<2 not 1<2", 9, 0);
-        ruleFault("take 1 wait 1<2", 7, 0);
-        ruleFault("take WAY", 5, 0);
-        ruleFault("take 1\n", 6, 0);
-        ruleFault("wait " + times("[", 11, "") + "1<2" + times("]", 11, ""), 15, 2);
-        ruleFault("wait " + times("not", 11, " ") + " 1<2", 5 + 40, 2);
-        ruleFault("wait " + times("not[", 6, "") + "1<2" + times("]", 6, ""), 5 + 20, 2);
-        ruleFault("wait " + times("[", 10, "") + "not 1<2", 15, 2);
-        ruleFault("wait " + times("[", 10, "") + "1<2" + times("]", 9, ""), 5 + 10 + 3 + 9, 0);
-        ruleFault("take " + times("1", 61, "+"), 5 + 120, 3);
-        ruleFault("take " + times("1", 60, "+") + "+foo", 5 + 120, 0);
-        ruleFault("take " + times("1", 60, "+") + "+123456", 5 + 120, 1);
-        ruleFault("take " + times("1", 60, "+") + " if 1<2", 5 + 119 + 4, 3);
-        ruleFault("take 1;take " + times("1", 60, "*"), 12 + 118, 3);
-        String facts = "wait " + times("1<1", 19, " and ");
-        ruleFault(facts + " or 1+1+1<1", facts.length() + 9, 3);
-        ruleFault(facts + " or 1+1 <= 1", facts.length() + 11, 3);
-        ruleFault(facts + " or 1<1 or 1<1", facts.length() + 11, 3);
-        ruleFault(facts + " or 1+1+1+1", facts.length() + 10, 3);
-        ruleFault(facts + " or 1+1+1!", facts.length() + 9, 0);
-        String clauses = times("take 1", 12, ";");
-        ruleFault(clauses + ";take 1", clauses.length() + 1, 4);
-        ruleFault(clauses + "; wait 1<2", clauses.length() + 2, 4);
-        ruleFault(clauses + ";if", clauses.length() + 1, 0);
-        ruleFault(clauses + ";", clauses.length() + 1, 0);
+        Told.ruleFault("", 0, 0);
+        Told.ruleFault("take", 4, 0);
+        Told.ruleFault("take ", 5, 0);
+        Told.ruleFault("way 0 1 5", 0, 0);
+        Told.ruleFault("taken 1", 0, 0);
+        Told.ruleFault("take 1 if", 9, 0);
+        Told.ruleFault("take 1 if 1", 11, 0);
+        Told.ruleFault("take 1 if 1 <", 13, 0);
+        Told.ruleFault("take 123456", 5, 1);
+        Told.ruleFault("take 1 if 1 < 000001", 14, 1);
+        Told.ruleFault("take 1;", 7, 0);
+        Told.ruleFault("take 1 +", 8, 0);
+        Told.ruleFault("take + 1", 5, 0);
+        Told.ruleFault("take -1", 5, 0);
+        Told.ruleFault("take foo", 5, 0);
+        Told.ruleFault("take if", 5, 0);
+        Told.ruleFault("take wayif 1<2", 5, 0);
+        Told.ruleFault("take 1 1", 7, 0);
+        Told.ruleFault("take [ 1 ]", 5, 0);
+        Told.ruleFault("take 1 < 2", 7, 0);
+        Told.ruleFault("wait 1", 6, 0);
+        Told.ruleFault("wait 1 if 2", 7, 0);
+        Told.ruleFault("wait [1<2", 9, 0);
+        Told.ruleFault("wait 1<2]", 8, 0);
+        Told.ruleFault("wait [1]", 7, 0);
+        Told.ruleFault("wait 1 < = 2", 9, 0);
+        Told.ruleFault("wait 1 => 2", 8, 0);
+        Told.ruleFault("wait 1<>2", 7, 0);
+        Told.ruleFault("wait 1<2<3", 8, 0);
+        Told.ruleFault("wait not", 8, 0);
+        Told.ruleFault("wait 1<2 and", 12, 0);
+        Told.ruleFault("wait 1<2 or or 1<2", 12, 0);
+        Told.ruleFault("wait 1<2 andd 1<2", 9, 0);
+        Told.ruleFault("wait 1<2 not 1<2", 9, 0);
+        Told.ruleFault("take 1 wait 1<2", 7, 0);
+        Told.ruleFault("take WAY", 5, 0);
+        Told.ruleFault("take 1\n", 6, 0);
+        Told.ruleFault("wait " + Told.times("[", 11, "") + "1<2" + Told.times("]", 11, ""), 15, 2);
+        Told.ruleFault("wait " + Told.times("not", 11, " ") + " 1<2", 5 + 40, 2);
+        Told.ruleFault("wait " + Told.times("not[", 6, "") + "1<2" + Told.times("]", 6, ""), 5 + 20, 2);
+        Told.ruleFault("wait " + Told.times("[", 10, "") + "not 1<2", 15, 2);
+        Told.ruleFault("wait " + Told.times("[", 10, "") + "1<2" + Told.times("]", 9, ""), 5 + 10 + 3 + 9, 0);
+        Told.ruleFault("take " + Told.times("1", 61, "+"), 5 + 120, 3);
+        Told.ruleFault("take " + Told.times("1", 60, "+") + "+foo", 5 + 120, 0);
+        Told.ruleFault("take " + Told.times("1", 60, "+") + "+123456", 5 + 120, 1);
+        Told.ruleFault("take " + Told.times("1", 60, "+") + " if 1<2", 5 + 119 + 4, 3);
+        Told.ruleFault("take 1;take " + Told.times("1", 60, "*"), 12 + 118, 3);
+        String facts = "wait " + Told.times("1<1", 19, " and ");
+        Told.ruleFault(facts + " or 1+1+1<1", facts.length() + 9, 3);
+        Told.ruleFault(facts + " or 1+1 <= 1", facts.length() + 11, 3);
+        Told.ruleFault(facts + " or 1<1 or 1<1", facts.length() + 11, 3);
+        Told.ruleFault(facts + " or 1+1+1+1", facts.length() + 10, 3);
+        Told.ruleFault(facts + " or 1+1+1!", facts.length() + 9, 0);
+        String clauses = Told.times("take 1", 12, ";");
+        Told.ruleFault(clauses + ";take 1", clauses.length() + 1, 4);
+        Told.ruleFault(clauses + "; wait 1<2", clauses.length() + 2, 4);
+        Told.ruleFault(clauses + ";if", clauses.length() + 1, 0);
+        Told.ruleFault(clauses + ";", clauses.length() + 1, 0);
     }
 
     private static void rulesThatFit() {
-        ruleFits("take 1");
-        ruleFits(" take99999 ; wait1<2 ");
-        ruleFits("take way+minutes-gone*last/to+far-out+there-goer+aim-clock+on");
-        ruleFits("take 1 if not not[1<2]or 1>=2 and 3 = 4;wait not 1 <=2");
-        ruleFits("wait " + times("[", 10, "") + "1<2" + times("]", 10, ""));
-        ruleFits("wait " + times("not", 10, " ") + " 1<2");
-        ruleFits("wait " + times("not[", 5, "") + "1<2" + times("]", 5, "") + "and" + times("[", 10, "") + "1<2" + times("]", 10, ""));
-        ruleFits("take " + times("1", 60, "+"));
-        ruleFits("wait " + times("1<1", 20, " and "));
-        ruleFits(times("take 1", 12, ";"));
-        ruleFits("take 00000");
+        Told.ruleFits("take 1");
+        Told.ruleFits(" take99999 ; wait1<2 ");
+        Told.ruleFits("take way+minutes-gone*last/to+far-out+there-goer+aim-clock+on");
+        Told.ruleFits("take 1 if not not[1<2]or 1>=2 and 3 = 4;wait not 1 <=2");
+        Told.ruleFits("wait " + Told.times("[", 10, "") + "1<2" + Told.times("]", 10, ""));
+        Told.ruleFits("wait " + Told.times("not", 10, " ") + " 1<2");
+        Told.ruleFits("wait " + Told.times("not[", 5, "") + "1<2" + Told.times("]", 5, "") + "and" + Told.times("[", 10, "") + "1<2" + Told.times("]", 10, ""));
+        Told.ruleFits("take " + Told.times("1", 60, "+"));
+        Told.ruleFits("wait " + Told.times("1<1", 20, " and "));
+        Told.ruleFits(Told.times("take 1", 12, ";"));
+        Told.ruleFits("take 00000");
     }
 
     private static void tapeBehindAFault() {

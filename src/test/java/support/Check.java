@@ -1,5 +1,9 @@
+import java.util.List;
+
 /** Counts answers that are not as due, and feeds texts. */
 final class Check {
+    /** The words of the document that is checked, if a test tells them. */
+    static String words = null;
     private static int wrong = 0;
     private static int checked = 0;
 
@@ -11,13 +15,23 @@ final class Check {
         if (got != want) {
             wrong++;
             if (wrong <= 50) {
-                System.out.println(what + " answered " + got + ", due is " + want);
+                String quote = words == null ? "" : "\"" + words + "\": ";
+                System.out.println(quote + what + " answered " + got + ", due is " + want);
             }
         }
     }
 
+    /** That nothing has changed since a look. */
+    static void same(String what, List<Integer> before, TurningRoads roads) {
+        due(what + ": nothing changes", Look.at(roads).equals(before) ? 1 : 0, 1);
+    }
+
     static boolean isClean() {
         return wrong == 0;
+    }
+
+    static int checked() {
+        return checked;
     }
 
     /** The TAPE becomes this text (of at most 400 bytes). */
