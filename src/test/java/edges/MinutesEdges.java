@@ -19,6 +19,33 @@ final class MinutesEdges {
         Check.due(sum + " of " + land, roads.goer(0, 3), 0);
     }
 
+    /**
+     * GOER 0 has set out by the rule, or has not. WAY 0 leads to his aim; WAY 1 was gone by twice, two are on it, one
+     * stands where it leads to, and it is longer.
+     */
+    private static TurningRoads unlikeWays(String rule) {
+        TurningRoads roads = Check.of(
+            "way 0 1 1;way 0 2 2;way 2 3 1;goer 0 1 1;goer 2 2 0;goer 0 7 0;goer 0 7 0;goer 0 0 0", "take way + on", rule);
+        roads.go(4, 1);
+        roads.go(4, 1);
+        roads.tick(0, 1);
+        roads.tick(1, 1);
+        return roads;
+    }
+
+    /** Two LANDS with like DIRECTIONS, in which unlike WAYS lead to the aim. */
+    private static void farInAnotherLand(int aim) {
+        int here = (aim + 1) % 8;
+        int other = (aim + 2) % 8;
+        String to = "way " + here + " " + aim + " 1";
+        String away = "way " + here + " " + other + " 1";
+        String goer = ";goer " + here + " " + aim + " 0";
+        TurningRoads roads = Check.of(to + ";" + away + goer, "take 99-far");
+        Check.due("by way 0 to " + aim, roads.ahead(0, 2, 3), 1);
+        Check.land(roads, away + ";" + to + goer);
+        Check.due("by way 1 to " + aim, roads.ahead(0, 2, 3), 2);
+    }
+
     private static void wordsOfAWay() {
         Says.terms("way, minutes, gone, last (of the WAY), to (the PLACE it leads to)");
         String land = "way 0 7 60;way 0 2 1;way 7 3 1;way 7 4 1;way 4 5 2;goer 0 5 4;goer 7 7 0;goer 7 7 0";
@@ -40,6 +67,14 @@ final class MinutesEdges {
         worth(line + "goer 0 6 0", 0, "far", 5);
         worth(line + "way 6 7 1;goer 0 7 0", 0, "far", 6);
         worth("way 0 1 1;way 0 7 1;way 2 1 1;goer 0 2 4;goer 2 1 0", 4, "far", 1);
+        for (int aim = 0; aim < 8; aim++) {
+            farInAnotherLand(aim);
+        }
+        TurningRoads most = Check.of(Told.times("way 0 1 1", 12, ";") + ";way 0 2 1;way 2 7 1;" + Told.times("goer 0 7 0", 6, ";"),
+            "take 99-far");
+        Check.due("by 14 ways, six goers in 2 minutes", most.ahead(0, 2, 0), 0);
+        Check.due("by 14 ways, six goers in 3 minutes", most.ahead(0, 3, 0), 6);
+        Check.due("each way was turned by six", most.ahead(0, 3, 3), 0);
         Says.terms("out (WAYS that lead away from that PLACE), there (GOERS that stand there)");
         worth(land, 4, "out", 2);
         worth("way 0 1 1;way 0 2 1;goer 0 5 4", 4, "out", 0);
@@ -55,6 +90,10 @@ final class MinutesEdges {
         worth("way 0 1 7;way 0 2 1;goer 0 5 4;goer 0 1 2;goer 0 1 3", 4, "on", 2);
         TurningRoads last = Check.of("way 0 1 1;way 0 2 1;" + Told.times("goer 0 0 0", 5, ";") + ";goer 0 7 0", "take way if goer = 5 and aim = 7");
         Check.due("goer 5 with aim 7", last.ahead(0, 2, 3), 2);
+        String[] words = {"way", "minutes", "gone", "last", "to", "far", "out", "there", "on"};
+        for (String word : words) {
+            Check.due("by " + word + " alone", unlikeWays("take " + word).goer(0, 3), 1);
+        }
     }
 
     private static void wordsInWait() {
@@ -67,6 +106,12 @@ final class MinutesEdges {
             roads.tick(0, 1);
             Check.due("wait " + word, roads.ahead(1, 7, 2), 1);
             Check.due("wait not " + word, roads.ahead(2, 7, 2), 2);
+        }
+        String[] behindOthers = {"goer = 0", "aim = 1", "clock = 1", "out = 2", "there = 2", "far = 1", "to = 0",
+            "way = 0", "minutes = 0", "gone = 0", "last = 0", "on = 0"};
+        for (String word : behindOthers) {
+            Check.due("wait " + word + " behind others", unlikeWays("wait " + word + ";take 1").goer(0, 0), 0);
+            Check.due("wait not " + word + " behind others", unlikeWays("wait not " + word + ";take 1").goer(0, 3), 0);
         }
         TurningRoads none = Check.of("way 0 1 1;goer 0 5 0", "take 1;wait far = 99", "take 1;wait far = 98");
         Check.due("no way to his aim", none.ahead(0, 2, 2), 0);
@@ -162,6 +207,9 @@ final class MinutesEdges {
         Check.due("who came sets out in the same minute", atOnce.goer(0, 3), 1);
         Says.terms("if some wait TEST holds: he stays");
         TurningRoads some = Check.of("way 0 1 1;goer 0 1 0", "wait 1>2;take 1;wait clock<2;wait 1>2");
+        TurningRoads only = Check.of("way 0 1 1;goer 0 1 0", "wait clock<2;take 1");
+        Check.due("the only one, ahead of the take", only.ahead(0, 3, 2), 0);
+        Check.due("then by the take", only.ahead(0, 4, 2), 1);
         Check.due("while one holds", some.ahead(0, 3, 2), 0);
         Check.due("then", some.ahead(0, 4, 2), 1);
         Says.terms("Else of WAYS that lead away from his PLACE the one with the greatest take (the SUM of the first take CLAUSE without a TEST, "
@@ -199,6 +247,13 @@ final class MinutesEdges {
         for (int i = 0; i < met.length; i++) {
             Check.due("met in " + (8 + i), three.ahead(0, 8 + i, 1), met[i]);
         }
+        int[] others = {0, 0, 0, 0, 1, 1};
+        TurningRoads first = Check.of("way 0 1 3;goer 0 1 1;goer 1 0 0;goer 0 1 0", "take 1");
+        TurningRoads second = Check.of("way 0 1 3;goer 1 0 0;goer 0 1 1;goer 0 1 0", "take 1");
+        for (int n = 0; n < others.length; n++) {
+            Check.due("0 and 1 met in " + n, first.ahead(0, n, 1), others[n]);
+            Check.due("1 and 0 met in " + n, second.ahead(0, n, 1), others[n]);
+        }
         TurningRoads same = Check.of("way 0 1 9;goer 0 1 0;goer 0 1 0", "take 1");
         Check.due("from one end", same.ahead(0, 9, 1), 0);
         TurningRoads unlike = Check.of("way 0 1 9;way 1 0 9;goer 0 1 0;goer 1 0 0", "take 1");
@@ -211,17 +266,31 @@ final class MinutesEdges {
         met1.tick(0, 1);
         Check.due("he has come", met1.count(6), 1);
         Says.terms("HOME of a GOER: the CLOCK when he first stood at his aim (behind that minute; by GO: as it is; 0 if he stood there at first).");
-        TurningRoads home = Check.of("way 0 1 2;way 0 1 2;goer 0 1 3;goer 0 1 500;goer 1 1 0;goer 0 5 900", "take 1");
+        TurningRoads home = Check.of("way 0 1 2;way 0 1 2;way 4 6 2;goer 0 1 3;goer 0 1 500;goer 1 1 500;goer 4 5 0", "take 1",
+            "wait 1<2");
         home.tick(0, 7);
         Check.due("behind that minute", home.goer(0, 5), 6);
         home.go(1, 1);
         Check.due("by go", home.goer(1, 5), 7);
         Check.due("at first", home.goer(2, 5), 0);
         Check.due("not yet", home.goer(3, 5), -1);
-        home.go(2, 0);
-        home.tick(0, 1);
-        home.go(2, 0);
+        Check.due("elsewhere by go", home.go(2, 0), 0);
+        home.tick(1, 1);
+        Check.due("there again", home.go(2, 0), 1);
         Check.due("he first stood there", home.goer(2, 5), 0);
+        Check.due("elsewhere by go", home.go(1, 1), 0);
+        home.tick(1, 1);
+        Check.due("there again", home.go(1, 1), 1);
+        Check.due("he first stood there by go", home.goer(1, 5), 7);
+        Check.due("elsewhere", home.go(0, 0), 0);
+        home.tick(0, 9);
+        Check.due("there again by the minute", home.goer(0, 0), 1);
+        Check.due("he first stood there by the minute", home.goer(0, 5), 6);
+        TurningRoads elsewhere = Check.of("way 0 1 1;goer 0 5 0;goer 0 6 9", "take 1");
+        elsewhere.tick(0, 2);
+        Check.due("not home elsewhere by the minute", elsewhere.goer(0, 5), -1);
+        elsewhere.go(0, 0);
+        Check.due("not home elsewhere by go", elsewhere.goer(0, 5), -1);
     }
 
     /** An object whose CLOCK is late, by a rule that keeps all where they are till then. */
@@ -430,6 +499,11 @@ final class MinutesEdges {
         Check.due("in 20 all", most.days(0, 20, 300, 2), 20);
         Check.due("without goers all are", Check.of("way 0 1 1", "take 1").days(0, 20, 300, 2), 20);
         Check.due("without goers none is", Check.of("way 0 1 1", "take 1").days(0, 20, 300, 0), 0);
+        TurningRoads met = Check.of(MEETING + ";goer 1 0 0", "take 1");
+        met.tick(0, 4);
+        Check.due("met till now", met.count(6), 2);
+        Check.due("met in none", met.days(0, 20, 0, 1), 0);
+        Check.due("met in these alone", met.days(0, 20, 1, 1), 0);
         Says.promise(30, "NONE without these (n 0 to 300).");
         int[][] wrong = {{-1, 1, 1, 0}, {1, 1, 1, 0}, {0, 0, 1, 0}, {0, 21, 1, 0}, {0, -1, 1, 0}, {0, 1, -1, 0}, {0, 1, 301, 0}, {0, 1, 1, -1}, {0, 1, 1, 3}};
         for (int[] no : wrong) {

@@ -92,6 +92,12 @@ final class RoadEdges {
         Check.due("of 1 now", roads.place(1, 4), 7);
         Check.due("by seven ways", Check.of(line(7) + "goer 0 0 0").place(0, 4), 255);
         Check.due("by a way on which someone is", busy().place(0, 4), 7);
+        TurningRoads most = Check.of(line(14) + Told.times("goer 7 7 0", 6, ";"));
+        Check.due("by 14 ways", most.place(0, 4), 255);
+        Check.due("of the last place, by 14 ways", most.place(7, 4), 128);
+        Check.due("far by 14 ways", most.far(0, 7), 7);
+        Check.due("none by 14 ways", most.far(7, 0), -2);
+        Check.due("six at the last place", most.place(7, 2), 6);
         Says.terms("FAR of two PLACES: the fewest of these WAYS, so.");
         TurningRoads far = Check.of(line(7) + "way 0 5 60");
         Check.due("to itself", far.far(3, 3), 0);

@@ -79,6 +79,30 @@ final class SearchEdges {
         Check.due("he is the next", later.step(3, 1), 0);
         TurningRoads lesser = Check.of("way 0 2 1;way 0 1 1;way 2 1 1;way 1 3 1;goer 0 1 0");
         Check.due("not the lesser way if it is farther", lesser.step(1, 0), 1);
+        TurningRoads line = Check.of("way 5 6 1;way 0 1 1;way 2 3 1;way 1 2 1;way 6 7 1;way 4 5 1;way 3 4 1;goer 0 7 0");
+        int[] row = {1, 3, 2, 6, 5, 0, 4};
+        Check.due("seven", line.fewest(1), 7);
+        for (int k = 0; k < row.length; k++) {
+            Check.due("going " + k + " of seven", line.step(1, k), row[k]);
+        }
+        Check.due("no eighth", line.step(1, 7), -2);
+    }
+
+    /** What one call looked through leaves nothing behind for the next. */
+    private static void askedAgain() {
+        Says.terms("from the STATE as it is");
+        TurningRoads roads = Check.of("way 0 1 1;way 1 2 1;way 2 0 1;way 3 2 1;goer 0 3 0;goer 3 0 0;goer 2 2 0");
+        int[] due = {-2, 2, 2, -2, 2, 0, 4, 1, 3, 1, 1, 2};
+        for (int again = 0; again < 3; again++) {
+            int[] got = {roads.fewest(1), roads.closed(1, 0), roads.closed(1, 0), roads.step(1, 0), roads.decoys(0), roads.decoys(1),
+                roads.post(1, 5, true), roads.post(1, 4, false), roads.post(0, 7, true), roads.comes(1, 7), roads.comes(1, 0),
+                roads.fewest(2)};
+            for (int i = 0; i < due.length; i++) {
+                Check.due("answer " + i + ", asked for the time " + again, got[i], due[i]);
+            }
+            Check.due("no such going", roads.step(3, 999), -2);
+            Check.due("the first going", roads.step(3, 0), 19);
+        }
     }
 
     private static void directionsComeTo() {
@@ -236,6 +260,10 @@ final class SearchEdges {
         Check.due("two, away from their aims then", Check.of(two).decoys(0), 6);
         Check.due("three goers with 11 ways", Check.of(two + ";" + Told.times("way 5 6 1", 8, ";")).decoys(0), 6);
         Check.due("three goers with 12 ways", Check.of(two + ";" + Told.times("way 5 6 1", 9, ";")).decoys(0), -2);
+        String three = "way 1 0 1;way 1 2 1;way 3 2 1;way 3 4 1;way 5 4 1;goer 0 5 0;goer 1 1 0;goer 7 7 0;goer 3 3 0;goer 5 5 0";
+        Check.due("three", Check.of(three).decoys(0), 26);
+        Check.due("four goers with 8 ways", Check.of(three + ";" + Told.times("way 6 7 1", 3, ";")).decoys(0), 26);
+        Check.due("four goers with 9 ways", Check.of(three + ";" + Told.times("way 6 7 1", 4, ";")).decoys(0), -2);
         String one = "way 1 0 1;goer 0 1 0;goer 1 1 0;";
         Check.due("two goers with 14 ways", Check.of(one + Told.times("way 5 6 1", 13, ";")).decoys(0), 2);
         Check.due("all five others", Check.of("way 0 1 1;way 6 7 1;" + Told.times("goer 2 2 0", 5, ";") + ";goer 1 0 0").decoys(5), -2);
@@ -278,6 +306,13 @@ final class SearchEdges {
         Check.due("back at last", round.post(0, 5, true), 3);
         TurningRoads others = Check.of("way 1 0 1;goer 0 1 0;goer 1 1 0");
         Check.due("he alone goes", others.post(0, 2, false), -2);
+        TurningRoads far = Check.of("way 7 5 1;way 5 0 1;way 0 7 1;way 7 6 1;goer 7 0 0;goer 5 0 0");
+        Check.due("from 7 to 0", far.post(0, 1, false), 2);
+        Check.due("from 7 to 0 and back", far.post(0, 1, true), 3);
+        Check.due("from 7 all round", far.post(0, 225, true), 5);
+        Check.due("from 7 all round, and anywhere", far.post(0, 225, false), 4);
+        Check.due("from 5 to 0", far.post(1, 1, false), 1);
+        Check.due("from 5 to 0 and back", far.post(1, 1, true), 2);
         Says.promise(18, "POST over PLACES (as bits, 0 to 255), back or not");
         Check.due("over none", round.post(0, 0, false), 0);
         Check.due("over none and back", round.post(0, 0, true), 0);
@@ -321,6 +356,11 @@ final class SearchEdges {
         TurningRoads stops = Check.of("way 0 1 1;way 2 1 1;goer 0 5 0");
         stops.turn(1);
         Check.due("he stops", stops.longest(0, 9, 2), 0);
+        TurningRoads most = Check.of(Told.times("way 1 0 1", 14, ";") + ";goer 0 1 0;goer 1 0 0");
+        Check.due("he stops, with 14 ways", most.longest(0, 9, 2), 0);
+        Check.due("he covers none of them", most.covers(0), -2);
+        Check.due("nor comes to a round", most.settles(0, 1), -2);
+        Check.due("the other doesn't stop", most.longest(1, 9, 2), 9);
         Says.promise(19, "LONGEST for n steps (0 to 2000) what 0: his PLACE then, 1: DIRECTIONS then, "
             + "2: how many steps he took (nothing changes)");
         TurningRoads one = Check.of("way 0 1 1;goer 0 0 0");
@@ -429,6 +469,22 @@ final class SearchEdges {
         Check.due("four steps", two.settles(0, 1), 4);
         two.go(0, 0);
         Check.due("one not gone by has the least LAST", two.settles(0, 0), 0);
+        for (int ways = 2; ways <= 14; ways++) {
+            TurningRoads twins = Check.of(Told.times("way 0 1 1", ways, ";") + ";goer 0 1 0");
+            Check.due("he goes one step", twins.longest(0, 1, 0), 1);
+            for (int again = 0; again < 2; again++) {
+                Check.due("ahead with ways " + ways, twins.settles(0, 0), 2 * ways - 3);
+                Check.due("a round with ways " + ways, twins.settles(0, 1), 2 * ways);
+                Check.due("covers with ways " + ways, twins.covers(0), 2 * ways - 1);
+            }
+        }
+        TurningRoads far = Check.of("way 7 3 1;way 1 4 1;goer 7 7 0");
+        Check.due("7, 3, 7, 3: ahead", far.settles(0, 0), 1);
+        Check.due("7, 3, 7, 3: round", far.settles(0, 1), 2);
+        TurningRoads many = Check.of("way 3 5 1;way 4 5 1;way 0 3 1;way 4 0 1;way 3 2 1;way 2 3 1;way 5 4 1;way 5 4 1;way 1 5 1;"
+            + "way 1 5 1;way 3 2 1;goer 0 0 0");
+        Check.due("orders that are nearly alike: ahead", many.settles(0, 0), 12);
+        Check.due("orders that are nearly alike: round", many.settles(0, 1), 42);
         Says.promise(21, "SETTLES what 0: steps ahead of the round, 1: steps of the round");
         TurningRoads one = Check.of("way 0 1 1;goer 0 1 0;goer 5 5 0");
         Check.due("ahead", one.settles(0, 0), 0);
@@ -541,6 +597,10 @@ final class SearchEdges {
         unlike.row(0, 0);
         unlike.row(2, 0);
         Check.due("the second can't be first", unlike.free(0), 0);
+        TurningRoads other = Check.of("way 0 1 1;goer 0 1 0;goer 1 0 0");
+        other.row(1, 0);
+        other.row(0, 0);
+        Check.due("in the other order alone", other.free(0), 0);
         Says.promise(24, "FREE (k from 0 on): 1 if so, else 0");
         TurningRoads two = Check.of("way 0 1 1;way 0 1 1;goer 0 1 0;goer 0 1 0");
         two.row(0, 0);
@@ -549,6 +609,18 @@ final class SearchEdges {
         Check.due("by unlike ways", two.free(0), 1);
         two.row(0, 1);
         Check.due("the next two", two.free(1), 0);
+        TurningRoads most = Check.of(Told.times("way 0 1 1", 14, ";") + ";" + Told.times("goer 0 1 0", 6, ";"));
+        for (int i = 0; i < 6; i++) {
+            most.row(i, 13 - i);
+        }
+        most.row(0, 13);
+        most.row(5, 13);
+        Check.due("all by unlike ways", most.done(), 7);
+        for (int k = 0; k < 5; k++) {
+            Check.due("free " + k + " of six goers", most.free(k), 1);
+        }
+        Check.due("free 5 of six goers", most.free(5), 1);
+        Check.due("free 6 of six goers", most.free(6), 0);
         Says.promise(24, "NONE without both");
         List<Integer> before = Look.at(two);
         Check.due("k -1", two.free(-1), -1);
@@ -571,6 +643,7 @@ final class SearchEdges {
     static void run() {
         sizes();
         fromTheStateAsItIs();
+        askedAgain();
         directionsComeTo();
         fewestAnswers();
         stepAnswers();

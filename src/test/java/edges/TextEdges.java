@@ -125,6 +125,14 @@ final class TextEdges {
         Check.due("by rule 5", six.ahead(5, 2, 3), 2);
         Check.due("by rule 6", six.ahead(6, 2, 3), -1);
         Check.due("by rule -1", six.ahead(-1, 2, 3), -1);
+        TurningRoads longRules = Check.of("way 0 1 1;way 0 2 1;goer 0 5 0");
+        for (int i = 0; i < 6; i++) {
+            Check.rule(longRules, "take " + Told.times("9*1", 30, "-") + "+");
+            Check.due("as long as can be", Check.rule(longRules, "take 2 if way=" + i % 2 + ";take " + Told.times("0", 56, "+")), i);
+        }
+        for (int i = 0; i < 6; i++) {
+            Check.due("by long rule " + i, longRules.ahead(i, 2, 3), 1 + i % 2);
+        }
         Says.terms("texts likewise, 12 CLAUSES at most");
         String twelve = Told.times("take 1", 12, ";");
         String waits = Told.times("wait 1<1", 12, ";");
@@ -176,6 +184,9 @@ final class TextEdges {
         Told.tested("not [2<1 and 2<1]", true);
         Told.tested("not not 1<2", true);
         Told.tested("[1<2 or 1<2] and 2<1", false);
+        Told.tested("2<1 or [1<2]", true);
+        Told.tested("2<1 and [1<2]", false);
+        Told.tested("1<2 or [2<1 and 2<1]", true);
         Told.ruleFault("wait []", 6, 0);
         Told.ruleFault("wait [1<2", 9, 0);
         Told.ruleFault("wait 1<2]", 8, 0);
@@ -186,8 +197,12 @@ final class TextEdges {
         String[] signs = {"<", "<=", "=", ">=", ">"};
         for (int i = 0; i < signs.length; i++) {
             Told.tested("6 " + signs[i] + " 7", i < 2);
-            Told.tested("7 " + signs[i] + " 7", i > 0 && i < 4);
-            Told.tested("8 " + signs[i] + " 7", i > 2);
+            Told.tested("7" + signs[i] + "7", i > 0 && i < 4);
+            Told.tested("8 " + signs[i] + "7", i > 2);
+            Told.tested("not 7" + signs[i] + "7", i == 0 || i == 4);
+            Told.tested("1<2 and 76" + signs[i] + "77 and 1<2", i < 2);
+            Told.tested("1<2 and 77" + signs[i] + "77 and 1<2", i > 0 && i < 4);
+            Told.tested("1<2 and 78" + signs[i] + "77 and 1<2", i > 2);
         }
         Told.ruleFault("wait 1==2", 7, 0);
         Told.ruleFault("wait 1=<2", 7, 0);
@@ -195,6 +210,8 @@ final class TextEdges {
         Told.ruleFault("wait 1<>2", 7, 0);
         Told.ruleFault("wait 1< =2", 8, 0);
         Told.ruleFault("wait 1!2", 6, 0);
+        Told.ruleFault("wait 1 2", 7, 0);
+        Told.ruleFault("wait way to", 9, 0);
         Told.ruleFault("wait 1<2<3", 8, 0);
     }
 
@@ -237,6 +254,10 @@ final class TextEdges {
         Told.ruleFault("take wayway", 5, 0);
         Told.ruleFault("take Way", 5, 0);
         Told.ruleFault("take wa", 5, 0);
+        Told.ruleFault("take waya", 5, 0);
+        Told.ruleFault("take wayz", 5, 0);
+        Told.ruleFault("take way`", 8, 0);
+        Told.ruleFault("take way{", 8, 0);
         Told.ruleFault("take way1", 8, 0);
         Told.ruleFault("take 1 iff 1<2", 7, 0);
         Told.ruleFault("wait notnot 1<2", 5, 0);
@@ -245,6 +266,8 @@ final class TextEdges {
         Told.ruleFault("take minuteslonger", 5, 0);
         Told.landFits("way0 1 5;goer0 1 5", 1, 1);
         Told.landFault("wayx 0 1 5", 0, 0);
+        Told.landFault("goera 0 1 5", 0, 0);
+        Told.landFault("goerz 0 1 5", 0, 0);
         Told.landFault("WAY 0 1 5", 0, 0);
         Told.landFault("w ay 0 1 5", 0, 0);
     }
@@ -450,6 +473,33 @@ final class TextEdges {
         Check.due("what was cut off is gone", lived.end(3) + lived.end(4), 2);
     }
 
+    /** What was cut off stands behind the end: nothing of it is read. */
+    private static void cutOff() {
+        Says.promise(3, "its first n bytes alone");
+        String[] lands = {"way 0 1 5;way 8", "way 0 1 57", "way 0 1 5  x", "way 0 1 5;"};
+        for (String text : lands) {
+            TurningRoads roads = new TurningRoads();
+            Check.tape(roads, text);
+            roads.end(9);
+            Check.due("nine of '" + text + "'", roads.land(), 1);
+            Check.due("minutes of '" + text + "'", roads.way(0, 2), 5);
+        }
+        String[] rules = {"wait 1<=2", "wait 1< 2", "wait 1<1<2"};
+        for (String text : rules) {
+            TurningRoads roads = new TurningRoads();
+            Check.tape(roads, text);
+            roads.end(7);
+            Check.due("seven of '" + text + "'", roads.rule(), Check.fault(7, 0));
+        }
+        TurningRoads word = new TurningRoads();
+        Check.tape(word, "take goer");
+        word.end(7);
+        Check.due("seven of a word", word.rule(), Check.fault(5, 0));
+        Check.tape(word, "take one");
+        word.end(7);
+        Check.due("a shorter word", word.rule(), 0);
+    }
+
     private static void landing() {
         Says.promise(4, "The TAPE, which is empty then, is the LAND in place of the one there was");
         TurningRoads roads = Told.lived();
@@ -475,8 +525,10 @@ final class TextEdges {
         for (int what = 0; what < ahead.length; what++) {
             Check.due("count " + what + " ahead", lived.count(what), ahead[what]);
         }
-        Check.land(lived, "way 0 1 1;way 4 5 1;goer 4 4 5");
-        int[] behind = {2, 1, 1, 0, 0, 0, 0, 0, 77, 0};
+        Look.at(lived);
+        Check.due("a look ahead", lived.ahead(0, 1, 2), 1);
+        Check.land(lived, "way 2 6 1;way 4 5 1;goer 4 4 5;goer 0 1 0;goer 2 2 0");
+        int[] behind = {2, 3, 1, 0, 0, 0, 0, 0, 77, 0};
         for (int what = 0; what < behind.length; what++) {
             Check.due("count " + what + " behind", lived.count(what), behind[what]);
         }
@@ -484,6 +536,16 @@ final class TextEdges {
             for (int what = 3; what <= 5; what++) {
                 Check.due("way " + way + " " + what, lived.way(way, what), 0);
             }
+        }
+        for (int goer = 0; goer < 3; goer++) {
+            Check.due("no minutes on a way, goer " + goer, lived.goer(goer, 4), 0);
+            Check.due("on no way, goer " + goer, lived.goer(goer, 3), -1);
+        }
+        int[] out = {0, 0, 1, 0, 1, 0, 0, 0};
+        int[] into = {0, 0, 0, 0, 0, 1, 1, 0};
+        for (int place = 0; place < 8; place++) {
+            Check.due("ways that lead away from " + place, lived.place(place, 0), out[place]);
+            Check.due("ways that lead to " + place, lived.place(place, 1), into[place]);
         }
         Check.due("the first going has number 1", lived.go(0, 1) + 10 * lived.way(1, 4), 15);
     }
@@ -567,6 +629,7 @@ final class TextEdges {
         newObject();
         feeding();
         ending();
+        cutOff();
         landing();
         landsAnswers();
         ruling();
