@@ -116,9 +116,13 @@ public final class GrammarTest {
         return b.toString();
     }
 
+    /** Bytes that would go on with the text were behind its end. */
     private static int told(String text) {
         TurningRoads roads = new TurningRoads();
-        return isLand ? Check.land(roads, text) : Check.rule(roads, text);
+        String behind = new String[] {"0", "z", "=", " ", ";"}[RANDOM.nextInt(5)];
+        Check.tape(roads, text.length() < 400 ? text + behind : text);
+        roads.end(text.length());
+        return isLand ? roads.land() : roads.rule();
     }
 
     private static int fitting(List<String> tokens) {
@@ -174,22 +178,23 @@ public final class GrammarTest {
         }
     }
 
-    /** The kinds of FAULT that a token (which can stand there) would be, the least first, of those of a RULE. */
+    /** The least kind of FAULT that a token, which can stand there, is; NONE: it is none. */
     private static int kindOf(String token, int[] counts) {
-        boolean isClause = token.matches("take|wait");
-        boolean counted = fits("NUMBER", token) || fits("WORD", token) || fits("SIGN", token);
+        boolean counted = !isLand && (fits("NUMBER", token) || fits("WORD", token) || fits("SIGN", token));
         counts[0] += counted ? 1 : 0;
-        counts[1] += isClause ? 1 : 0;
+        counts[1] += token.matches("take|wait") ? 1 : 0;
+        counts[2] += isLand && token.equals("way") ? 1 : 0;
+        counts[3] += isLand && token.equals("goer") ? 1 : 0;
         if (fits("NUMBER", token) && token.length() > 5) {
             return 1;
         }
         if (!strict.read(token)) {
-            return 2;
+            return isLand ? 1 : 2;
         }
         if (counts[0] > 60) {
             return 3;
         }
-        return counts[1] > 12 ? 4 : -1;
+        return counts[1] > 12 || counts[2] > 14 || counts[3] > 6 ? 4 : TurningRoads.NONE;
     }
 
     private static String anyOf(String[] alphabet) {
@@ -198,11 +203,11 @@ public final class GrammarTest {
         return again ? "99999" : token;
     }
 
-    /** One random RULE, in which most tokens are such as can stand there. */
+    /** One random text, in which most tokens are such as can stand there. */
     private static int oneLong(int mostTokens, String[] alphabet) {
         loose.clear();
         strict.clear();
-        int[] counts = new int[2];
+        int[] counts = new int[4];
         List<String> tokens = new ArrayList<>();
         for (int n = 0; n < mostTokens; n++) {
             String token = anyOf(alphabet);
@@ -223,23 +228,29 @@ public final class GrammarTest {
         return whole ? 5 : 6;
     }
 
+    /** Random texts of each alphabet in turn; each of these ends must have come about. */
+    private static void someLong(int runs, String what, String[][] alphabets, int[] ends) {
+        int[] seen = new int[7];
+        for (int run = 0; run < runs; run++) {
+            seen[oneLong(1 + RANDOM.nextInt(160), alphabets[run % alphabets.length])]++;
+        }
+        for (int end : ends) {
+            Check.due(what + "s that end in " + end + " come about", seen[end] > 10 ? 1 : 0, 1);
+        }
+    }
+
     public static void main(String[] args) {
         int runs = args.length > 0 ? Integer.parseInt(args[0]) : 3000;
         beLand();
         allShort(new ArrayList<>(), LAND_TOKENS, 6);
+        someLong(runs, "land", new String[][] {LAND_TOKENS, {"way", "0", "1", ";"}, {"goer", "2", "3", ";"},
+            {"way", "way", "way", "goer", "5", "4", "6", ";"}}, new int[] {0, 1, 4, 5, 6});
         beRule();
         allShort(new ArrayList<>(), RULE_TOKENS, 7);
-        int[] seen = new int[7];
         String[] deep = {"take", "wait", "not", "[", "[", "not", "]", "1", "=", "and", "or"};
         String[] many = {"take", "wait", "1", "1", "to", "+", "*", "=", "and", "or", "if", ";", "not", "[", "]"};
         String[] clauses = {"take", "wait", "1", "to", "=", ";", ";", ";", ";"};
-        for (int run = 0; run < runs; run++) {
-            String[] alphabet = new String[][] {MORE_RULE_TOKENS, deep, many, clauses}[run % 4];
-            seen[oneLong(1 + RANDOM.nextInt(160), alphabet)]++;
-        }
-        for (int kind = 0; kind < seen.length; kind++) {
-            Check.due("texts that end in " + kind + " come about", seen[kind] > 10 ? 1 : 0, 1);
-        }
+        someLong(runs, "rule", new String[][] {MORE_RULE_TOKENS, deep, many, clauses}, new int[] {0, 1, 2, 3, 4, 5, 6});
         Check.finish();
     }
 }
